@@ -1,0 +1,115 @@
+import java.lang.reflect.Constructor;
+import java.lang.reflect.Field;
+import java.lang.reflect.Method;
+import java.lang.reflect.Modifier;
+import java.util.ArrayList;
+import java.util.Arrays;
+import java.util.List;
+import java.util.TreeSet;
+
+/** The class has the document's face, with the exceptions in its order, and nothing else in sight. */
+public final class FaceTest {
+    private static final String[] FACE = {
+        "int setClock(int,int,int,boolean) IndexOutOfBoundsException IllegalArgumentException",
+        "int setTimer(int,int,int,int,char) IndexOutOfBoundsException IllegalArgumentException",
+        "int link(int,int) IndexOutOfBoundsException IllegalArgumentException",
+        "char setPin(int,int,char) IndexOutOfBoundsException IllegalArgumentException",
+        "boolean start(int,boolean) IndexOutOfBoundsException",
+        "int setLine(int,int,boolean) IndexOutOfBoundsException IllegalArgumentException",
+        "int setHandler(int,int,char,int) IndexOutOfBoundsException IllegalArgumentException",
+        "int setSleep(int) IllegalArgumentException",
+        "boolean setWatchdog(int,int,int) IndexOutOfBoundsException IllegalArgumentException",
+        "boolean request(int) IndexOutOfBoundsException",
+        "boolean feed()",
+        "int run(int) IllegalArgumentException",
+        "int runByBeats(int) IllegalArgumentException",
+        "int toEvent() NoSuchElementException",
+        "int time()",
+        "int ticks(int) IndexOutOfBoundsException",
+        "int count(int) IndexOutOfBoundsException",
+        "boolean isRunning(int) IndexOutOfBoundsException",
+        "int pins()",
+        "int edges()",
+        "int edgeTime(int) NoSuchElementException",
+        "int edgePin(int) NoSuchElementException",
+        "boolean isRequested(int) IndexOutOfBoundsException",
+        "char processor()",
+        "int depth()",
+        "int onTop() NoSuchElementException",
+        "int handled(int) IndexOutOfBoundsException",
+        "int late()",
+        "int chained()",
+        "int resets()",
+        "int lastReset() NoSuchElementException",
+        "long energy()",
+        "float asleepShare() ArithmeticException",
+        "double meanEnergy() ArithmeticException",
+        "boolean isConsistent()",
+    };
+
+    private FaceTest() {
+    }
+
+    private static String told(Method method) {
+        StringBuilder text = new StringBuilder();
+        text.append(method.getReturnType().getSimpleName()).append(' ').append(method.getName()).append('(');
+        for (int i = 0; i < method.getParameterCount(); i++) {
+            text.append(i == 0 ? "" : ",").append(method.getParameterTypes()[i].getSimpleName());
+        }
+        text.append(')');
+        for (Class<?> thrown : method.getExceptionTypes()) {
+            text.append(' ').append(thrown.getSimpleName());
+        }
+        return text.toString();
+    }
+
+    private static void expect(List<String> wrong, boolean holds, String otherwise) {
+        if (!holds) {
+            wrong.add(otherwise);
+        }
+    }
+
+    public static void main(String[] args) {
+        List<String> wrong = new ArrayList<>();
+        Class<Tickstation> face = Tickstation.class;
+        expect(wrong, Modifier.isPublic(face.getModifiers()) && Modifier.isFinal(face.getModifiers()),
+                "the class is not public and final");
+
+        TreeSet<String> publicNames = new TreeSet<>();
+        TreeSet<String> privateNames = new TreeSet<>();
+        TreeSet<String> told = new TreeSet<>();
+        for (Method method : face.getDeclaredMethods()) {
+            if (Modifier.isPublic(method.getModifiers())) {
+                told.add(told(method));
+                publicNames.add(method.getName());
+                expect(wrong, !Modifier.isStatic(method.getModifiers()), "static: " + method);
+            } else {
+                privateNames.add(method.getName());
+                expect(wrong, Modifier.isPrivate(method.getModifiers()), "neither public nor private: " + method);
+            }
+        }
+        TreeSet<String> due = new TreeSet<>(Arrays.asList(FACE));
+        expect(wrong, told.equals(due), "the face is " + told + ", due is " + due);
+        privateNames.retainAll(publicNames);
+        expect(wrong, privateNames.isEmpty(), "private methods with public names: " + privateNames);
+
+        for (Field field : face.getDeclaredFields()) {
+            expect(wrong, Modifier.isPrivate(field.getModifiers()), "a field in sight: " + field);
+            expect(wrong, Modifier.isFinal(field.getModifiers()) || !Modifier.isStatic(field.getModifiers()),
+                    "a static field that is not final: " + field);
+        }
+        Constructor<?>[] constructors = face.getDeclaredConstructors();
+        expect(wrong, constructors.length == 1 && Modifier.isPublic(constructors[0].getModifiers())
+                && constructors[0].getParameterCount() == 0, "not just the one public constructor");
+        for (Class<?> inner : face.getDeclaredClasses()) {
+            expect(wrong, !Modifier.isPublic(inner.getModifiers()) && !Modifier.isProtected(inner.getModifiers()),
+                    "a class in sight: " + inner);
+        }
+
+        wrong.forEach(System.out::println);
+        System.out.println(wrong.isEmpty() ? "the face is as due" : wrong.size() + " faults");
+        if (!wrong.isEmpty()) {
+            System.exit(1);
+        }
+    }
+}
