@@ -654,11 +654,11 @@ public final class Tickstation {
             return best;
         }
 
+        /** NONE has a rank behind all others: each line is more urgent than it. */
         private int rankOf(int line) {
             return line < 0 || line >= LINES ? MOST_RANK + 1 : rank[line];
         }
 
-        /** Any line is more urgent than none, and none than no line. */
         boolean isMoreUrgent(int line, int than) {
             return rankOf(line) < rankOf(than);
         }
@@ -969,7 +969,7 @@ public final class Tickstation {
         }
     }
 
-    /** All that one chip is, so that a copy of it can go on by itself. */
+    /** All of a chip stands here and not in Tickstation, so that a copy can go on by itself. */
     private static final class Chip {
         final Clocks clocks = new Clocks();
         final Timers timers = new Timers();

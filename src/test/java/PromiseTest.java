@@ -264,6 +264,7 @@ public final class PromiseTest {
         go(chip, 1, byBeats);
         due("counts in the same beat", chip.count(2), 1);
         due("compares", chip.isRequested(2), true);
+        due("no overflow of the second, so none counted of it", chip.count(3), 0);
         go(chip, 3, byBeats);
         due("overflows in the same beat", chip.count(2), 0);
         due("counts in the same beat, two on", chip.count(3), 1);
