@@ -1,14 +1,22 @@
+import java.io.IOException;
 import java.lang.reflect.Constructor;
 import java.lang.reflect.Field;
 import java.lang.reflect.Method;
 import java.lang.reflect.Modifier;
+import java.nio.file.Files;
+import java.nio.file.Path;
 import java.util.ArrayList;
 import java.util.Arrays;
 import java.util.List;
 import java.util.TreeSet;
+import java.util.regex.Matcher;
+import java.util.regex.Pattern;
 
 /** The class has the document's face, with the exceptions in its order, and nothing else in sight. */
 public final class FaceTest {
+    private static final Path SOURCE = Path.of("src/main/java/Tickstation.java");
+    private static final Path DOCUMENT = Path.of("../shared/DOC.md");
+
     private static final String[] FACE = {
         "int setClock(int,int,int,boolean) IndexOutOfBoundsException IllegalArgumentException",
         "int setTimer(int,int,int,int,char) IndexOutOfBoundsException IllegalArgumentException",
@@ -69,7 +77,55 @@ public final class FaceTest {
         }
     }
 
-    public static void main(String[] args) {
+    private static String inOneLine(String text) {
+        return text.replaceAll("\\s+", " ").trim();
+    }
+
+    /** Each declaration stands in the source as in the document, with its names, and in its order. */
+    private static void lookAtWords(String source, String document, List<String> wrong) {
+        int from = document.indexOf("public final class Tickstation {");
+        int to = document.indexOf("\n}", Math.max(0, from));
+        if (from < 0 || to < 0) {
+            wrong.add("the document shows no face");
+            return;
+        }
+        int declarations = 0;
+        int at = 0;
+        for (String line : document.substring(from, to).split("[;\n]+")) {
+            String declaration = inOneLine(line);
+            if (declaration.isEmpty()) {
+                continue;
+            }
+            declarations++;
+            int found = source.indexOf(declaration.endsWith("{") ? declaration : declaration + " {", at);
+            expect(wrong, found >= 0, "does not stand there, or not in order: " + declaration);
+            at = Math.max(at, found);
+        }
+        expect(wrong, declarations == FACE.length + 2, "the document's face has " + declarations + " lines");
+    }
+
+    private static void lookAtHeadings(String source, String document, List<String> wrong) {
+        Matcher told = Pattern.compile("Ahead of the calls (.*) the interface says: (---- .*)\\.").matcher(document);
+        int headings = 0;
+        int calls = 0;
+        while (told.find()) {
+            headings++;
+            int begin = source.indexOf("// " + told.group(2) + " ");
+            int end = source.indexOf("// ----", begin + 1);
+            String part = begin < 0 ? "" : source.substring(begin, end < 0 ? source.length() : end);
+            Matcher call = Pattern.compile("`(\\w+)`").matcher(told.group(1));
+            int at = 0;
+            while (call.find()) {
+                calls++;
+                int found = part.indexOf(" " + call.group(1) + "(", at);
+                expect(wrong, found >= 0, call.group(1) + " does not stand behind " + told.group(2));
+                at = Math.max(at, found);
+            }
+        }
+        expect(wrong, headings == 3 && calls == FACE.length, "headings " + headings + ", calls " + calls);
+    }
+
+    public static void main(String[] args) throws IOException {
         List<String> wrong = new ArrayList<>();
         Class<Tickstation> face = Tickstation.class;
         expect(wrong, Modifier.isPublic(face.getModifiers()) && Modifier.isFinal(face.getModifiers()),
@@ -105,6 +161,11 @@ public final class FaceTest {
             expect(wrong, !Modifier.isPublic(inner.getModifiers()) && !Modifier.isProtected(inner.getModifiers()),
                     "a class in sight: " + inner);
         }
+
+        String source = inOneLine(Files.readString(SOURCE));
+        String document = Files.readString(DOCUMENT);
+        lookAtWords(source, document, wrong);
+        lookAtHeadings(source, document, wrong);
 
         wrong.forEach(System.out::println);
         System.out.println(wrong.isEmpty() ? "the face is as due" : wrong.size() + " faults");
